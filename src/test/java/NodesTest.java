@@ -211,12 +211,12 @@ public final class NodesTest {
                 Check.row(6, 5, 1, -6), Check.row(6, 6, 1, 9));
     }
 
-    /** 288 rows come up on the way, and none is left: only what is left must keep the limits. */
+    /** 288 rows come up on the way, and the last 24 are left: only what is left must keep the limits. */
     private static void joinWhosePairsCancel() {
         DeltaViews x = new DeltaViews();
-        for (int table = 0; table < 3; table++) {
+        for (int table = 0; table < 2; table++) {
             for (int k = 0; k < 12; k++) {
-                x.change(table, k, table, 0, 1);
+                x.change(table, k, table, 0, k == 11 && table == 0 ? 2 : 1);
             }
             x.step();
         }
@@ -224,12 +224,15 @@ public final class NodesTest {
         x.table(1);
         x.combine(0, 1, 1);
         x.combine(0, 1, 0);
-        Check.due("join: all pairs cancel", x.join(2, 3, 2, 2, 36 * 0 + 6 * 3 + 4), 4);
-        Check.dueRows("join: nothing is left", x, 4);
+        Check.due("join: pairs cancel", x.join(2, 3, 2, 2, 36 * 0 + 6 * 3 + 4), 4);
+        Check.due("join: 24 are left", x.rows(4), 24);
+        Check.due("join: the first of them", x.cell(4, 0, 0), 11);
+        Check.due("join: the weight of one", x.weight(4, 11, 11, 0), 2);
+        Check.due("join: one that cancelled", x.weight(4, 10, 11, 0), 0);
         Check.due("join: 576 rows", x.join(3, 3, 2, 2, 36 * 0 + 6 * 3 + 4), DeltaViews.FULL);
         Check.due("join: 24 of 576 pairs", x.join(3, 3, 2, 2, 36 * 0 + 6 * 1 + 2), 5);
         Check.due("join: 24 rows", x.rows(5), 24);
-        Check.due("join: each from 24 pairs", x.weight(5, 3, 1, 0), 24);
+        Check.due("join: each the sum of 24 pairs", x.weight(5, 3, 1, 0), 25);
         Check.due("join: no node for the full one", x.count(0), 6);
     }
 

@@ -5,6 +5,7 @@ public final class ReadsTest {
 
     public static void main(String[] args) {
         weights();
+        nodesFarOutOfRange();
         tables();
         rowCounts();
         cells();
@@ -36,6 +37,19 @@ public final class ReadsTest {
         Check.due("weight in its input", x.weight(0, -1, MIN, MAX), 2);
         Check.due("weight: node -1", x.weight(-1, 1, 2, 3), DeltaViews.NONE);
         Check.due("weight: node 3", x.weight(3, 1, 2, 3), DeltaViews.NONE);
+    }
+
+    private static void nodesFarOutOfRange() {
+        DeltaViews x = difference();
+        for (int node : new int[] {MIN, -4, -1, 3, 10, MAX}) {
+            String call = " of node " + node;
+            Check.due("weight" + call, x.weight(node, 1, 2, 3), DeltaViews.NONE);
+            Check.due("rows" + call, x.rows(node), DeltaViews.REFUSED);
+            Check.due("cell" + call, x.cell(node, 0, 0), DeltaViews.NONE);
+            Check.due("total" + call, x.total(node), DeltaViews.NONE);
+            Check.due("changed" + call, x.changed(node), DeltaViews.REFUSED);
+            Check.dueDouble("mean" + call, x.mean(node, 0), 0.0);
+        }
     }
 
     private static void tables() {
