@@ -2,23 +2,40 @@
 final class Check {
     private static int asked = 0;
     private static int wrong = 0;
+    private static String sentence = "";
 
     private Check() {
+    }
+
+    /** The sentence of the document that the next answers test; it is printed with each wrong one. */
+    static void sentence(String text) {
+        sentence = text;
+    }
+
+    private static void tell(String what, String got, String want) {
+        wrong++;
+        String told = sentence.isEmpty() ? "" : " (the document: " + sentence + ")";
+        System.out.println(what + " answered " + got + ", due is " + want + told);
+    }
+
+    static void due(String what, String got, String want) {
+        asked++;
+        if (!got.equals(want)) {
+            tell(what, got, want);
+        }
     }
 
     static void due(String what, long got, long want) {
         asked++;
         if (got != want) {
-            wrong++;
-            System.out.println(what + " answered " + got + ", due is " + want);
+            tell(what, Long.toString(got), Long.toString(want));
         }
     }
 
     static void dueDouble(String what, double got, double want) {
         asked++;
         if (Double.doubleToLongBits(got) != Double.doubleToLongBits(want)) {
-            wrong++;
-            System.out.println(what + " answered " + got + ", due is " + want);
+            tell(what, Double.toString(got), Double.toString(want));
         }
     }
 
