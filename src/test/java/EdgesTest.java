@@ -919,6 +919,19 @@ public final class EdgesTest {
             sum += 1000000L * (MAX - k);
         }
         Check.dueDouble("twelve such rows", z.mean(4, 0), (double) sum / 12000000.0);
+        meanThatDoublesWouldLose();
+    }
+
+    /** Five great sums, a 1, and the five below 0: sums as doubles would lose the 1, from either end. */
+    private static void meanThatDoublesWouldLose() {
+        DeltaViews x = withThreeJoins();
+        for (int k = 0; k < 5; k++) {
+            Check.put(x, 0, Check.row(k, MAX, 0, 10));
+            Check.put(x, 0, Check.row(6 + k, -MAX, 0, 10));
+        }
+        Check.put(x, 0, Check.row(5, 1, 0, 1));
+        Check.due("ten weights of 1000000 and a 1", x.total(4), 10000001);
+        Check.dueDouble("the 1 is not lost", x.mean(4, 1), 1.0 / 10000001.0);
     }
 
     private static void counts() {

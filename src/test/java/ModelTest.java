@@ -37,6 +37,9 @@ public final class ModelTest {
             while (test.calls + MOST_CALLS_OF_A_ROUND <= MOST_CALLS) {
                 test.round();
             }
+            while (test.calls < MOST_CALLS) {
+                test.oneCall();
+            }
             madeFull += test.madeFull;
             done += test.stepsDone;
             refused += test.stepsRefused;
@@ -88,6 +91,25 @@ public final class ModelTest {
             due("drop", x.drop(), model.drop());
         } else {
             read();
+        }
+    }
+
+    /** A run comes to its very last call by these; a step that fails leaves its changes pending. */
+    private void oneCall() {
+        int kind = below(10);
+        if (kind < 5) {
+            change();
+        } else if (kind < 7) {
+            due("step", x.step(), model.step());
+        } else if (kind == 7) {
+            int node = node();
+            due("total", x.total(node), model.total(node));
+        } else if (kind == 8) {
+            int node = node();
+            due("changed", x.changed(node), model.changed(node));
+        } else {
+            int what = about(5);
+            due("count", x.count(what), model.count(what));
         }
     }
 
